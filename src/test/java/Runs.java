@@ -5,12 +5,11 @@ import java.util.regex.Pattern;
 /**
  * Runs of calls in the notation of the document's examples, "area(10) = 0; far(0, 0) = 0":
  * each run is made on a new object, and every call whose answer is not the one that is due is printed.
- * Two words are added: text(..) types every byte of what stands in the brackets, and
- * 'n x call' makes a call n times, each time with the same answer due.
+ * One word is added: text(..), without an answer, empties the buffer and types what stands in the brackets.
  */
 final class Runs {
     private static final Pattern CALL =
-            Pattern.compile("\\s*(?:(\\d+) x )?(\\w+)\\(([^()]*)\\)(?:\\s*=\\s*(-?\\d+))?\\s*");
+            Pattern.compile("\\s*(\\w+)\\(([^()]*)\\)(?:\\s*=\\s*(-?\\d+))?\\s*");
     private static int wrong;
     private static int calls;
 
@@ -40,13 +39,10 @@ final class Runs {
         if (!m.matches()) {
             throw new IllegalStateException(title + ": no call: " + call);
         }
-        int times = m.group(1) == null ? 1 : Integer.parseInt(m.group(1));
-        for (int i = 0; i < times; i++) {
-            if (m.group(2).equals("text")) {
-                typeAll(x, title, m.group(3));
-            } else {
-                due(title, call.strip(), answer(x, m.group(2), m.group(3)), Long.parseLong(m.group(4)));
-            }
+        if (m.group(1).equals("text")) {
+            typeAll(x, title, m.group(2));
+        } else {
+            due(title, call.strip(), answer(x, m.group(1), m.group(2)), Long.parseLong(m.group(3)));
         }
     }
 
