@@ -36,6 +36,15 @@ public final class BackTest {
                 "told(11) = 1; told(12) = 4; of(0, 1) = 0; of(1, 1) = 2; of(0, 3) = -1; of(1, 3) = 1; far(0, 1) = 2;",
                 "siteOf(0, 3) = 1; siteOf(0, 8) = 0; siteOf(1, 3) = 0; siteOf(1, 8) = -1; session(0, 3) = 3;",
                 "session(1, 3) = 9; session(1, 2) = 2; area(5) = 2; far(1, 2) = -1");
+        Runs.run("26: the queue and the sessions return in their order",
+                "area(1) = 0; area(2) = 1; site(0, 9) = 0; site(1, 9) = 1; opens(0, 1, 11) = 1; opens(1, 2, 12) = 2;",
+                "drains(1) = 1; drains(0) = 2; cuts(1) = 2; siteOf(0, 8) = 0; ends(0) = 1; session(0, 0) = 1; back() = 4;",
+                "session(0, 0) = 0; session(0, 1) = 0; session(0, 2) = 1; session(0, 3) = 11; session(1, 0) = 1;",
+                "session(1, 1) = 1; session(1, 2) = 2; session(1, 3) = 12; back() = 3; siteOf(1, 8) = 0; siteOf(0, 8) = 1");
+        Runs.run("26: the lines of the last areas return",
+                "area(0) = 0; area(0) = 1; area(0) = 2; area(0) = 3; area(0) = 4; area(0) = 5; area(0) = 6; area(0) = 7;",
+                "line(6, 7, 3) = 0; line(6, 7, 5) = 3; far(7, 6) = 5; back() = 4; far(7, 6) = 3; far(6, 7) = 3;",
+                "line(7, 6, 1) = 3; back() = 4; back() = 3; far(6, 7) = -1; line(6, 7, 1) = 0");
         AnySites x = Runs.run("26: the digest returns",
                 "area(10) = 0; area(20) = 1; line(0, 1, 2) = 0; site(0, 9) = 0; site(1, 99) = 1; opens(0, 5, 9) = 1; drains(0) = 1");
         long withFive = x.digest();

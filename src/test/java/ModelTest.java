@@ -7,6 +7,7 @@ import java.util.Random;
  */
 public final class ModelTest {
     private static final int CALLS = 300;
+    private static final int NONE = -1;
     private static final String[] ACTS = {"area", "wants", "line", "line", "mood", "site", "rooms", "rooms", "steps",
         "steps", "drains", "cuts", "opens", "opens", "ends", "ticks", "ticks", "ticks", "lays", "back", "text"};
     private static final String[] QUESTIONS = {"far", "of", "siteOf", "seems", "session", "order", "order", "worst",
@@ -19,12 +20,15 @@ public final class ModelTest {
     private final Model model = new Model();
     private final String title;
     private final int rooms;
+    private final boolean clearsText;
     private int calls;
 
     private ModelTest(int seed) {
         random = new Random(seed);
         title = "drawn run " + seed;
         rooms = new int[] {40, 150, 400, 999}[seed % 4];
+        // In some runs the buffer becomes full.
+        clearsText = seed % 5 != 0;
     }
 
     public static void main(String[] args) {
@@ -76,10 +80,10 @@ public final class ModelTest {
                 break;
             case "ends":
             case "told":
-                call(name, number(13));
+                call(name, number(14));
                 break;
             case "ticks":
-                call(name, random.nextInt(4) == 0 ? number(31) : 1 + random.nextInt(3));
+                call(name, random.nextInt(4) == 0 ? number(32) : 1 + random.nextInt(3));
                 break;
             case "lays":
                 if (random.nextInt(3) == 0) {
@@ -87,17 +91,24 @@ public final class ModelTest {
                 }
                 break;
             case "back":
-                call(name);
+                for (int i = random.nextInt(7); i >= 0; i--) {
+                    call(name);
+                }
+                call("plan", NONE);
                 break;
             case "line":
+                call(name, number(8), number(8), number(11));
+                break;
             case "opens":
-                call(name, number(8), number(9), number(10));
+                for (int i = random.nextInt(4); i >= 0; i--) {
+                    call(name, number(8), number(11), number(32));
+                }
                 break;
             case "order":
                 call(name, number(32), number(5));
                 break;
             case "worst":
-                call(name, 1 + number(2), number(2));
+                call(name, number(4), number(3));
                 break;
             case "rooms":
             case "site":
@@ -107,16 +118,16 @@ public final class ModelTest {
                 call(name, number(8), number(100));
                 break;
             case "mood":
-                call(name, number(8), number(3));
+                call(name, number(8), number(4));
                 break;
             case "siteOf":
-                call(name, number(5), number(10));
+                call(name, number(5), number(11));
                 break;
             case "session":
-                call(name, number(13), number(5));
+                call(name, number(13), number(6));
                 break;
             default:
-                call(name, number(8), number(6));
+                call(name, number(8), number(7));
                 break;
         }
     }
@@ -126,7 +137,7 @@ public final class ModelTest {
     }
 
     private void text() {
-        if (random.nextInt(3) > 0) {
+        if (clearsText && random.nextInt(5) > 0) {
             call("clear");
         }
         StringBuilder text = new StringBuilder();
@@ -148,7 +159,7 @@ public final class ModelTest {
 
     private String order() {
         char letter = "alsmpodxt".charAt(random.nextInt(9));
-        int numbers = "alsmpodxt".indexOf(letter) < 0 ? 0 : new int[] {1, 3, 2, 2, 2, 3, 1, 1, 1}["alsmpodxt".indexOf(letter)];
+        int numbers = new int[] {1, 3, 2, 2, 2, 3, 1, 1, 1}["alsmpodxt".indexOf(letter)];
         StringBuilder order = new StringBuilder(spaces(0)).append(letter);
         for (int i = 0; i < numbers; i++) {
             int limit = letter == 's' && i == 1 ? rooms : letter == 'a' ? 100 : 6;

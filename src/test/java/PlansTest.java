@@ -24,6 +24,9 @@ public final class PlansTest {
         Runs.run("19: a draining site has a step in the plan, one that is off does not count",
                 CHAIN, "site(0, 25) = 0; site(2, 60) = 1; site(0, 0) = 2; cuts(2) = 2; drains(0) = 1; plan(-1) = 1;",
                 "plan(0) = 1; plan(1) = 0; plan(2) = 0; cuts(2) = 0; plan(-1) = 2; plan(0) = 1; plan(1) = 0; plan(2) = 1");
+        Runs.run("19: a site behind one that is off has its step",
+                "area(5) = 0; site(0, 9) = 0; site(0, 0) = 1; site(0, 9) = 2; cuts(0) = 2; plan(-1) = 1; plan(1) = 1;",
+                "plan(2) = 0; plan(0) = 0");
         Runs.run("19: the present steps do not matter",
                 CHAIN, "site(0, 30) = 0; site(2, 60) = 1; steps(0, 4) = 0; steps(1, 4) = 0; plan(-1) = 0; plan(0) = 0;",
                 "plan(1) = 0; steps(0, 0) = 4; plan(-1) = 0; rooms(0, 29) = 30; plan(0) = 1; rooms(0, 30) = 29; plan(0) = 0");
@@ -43,6 +46,12 @@ public final class PlansTest {
         Runs.run("19: up to four steps, and no more",
                 "area(5) = 0; area(5) = 1; area(0) = 2; line(0, 2, 6) = 0; line(2, 1, 4) = 0; site(0, 0) = 0; site(1, 10) = 1;",
                 "plan(-1) = 4; line(2, 1, 6) = 4; plan(-1) = 4; plan(0) = 4; line(2, 1, 7) = 6; plan(-1) = -1");
+        Runs.run("19: many steps for many sites",
+                "area(5) = 0; area(5) = 1; area(0) = 2; line(0, 2, 6) = 0; line(2, 1, 6) = 0; site(0, 0) = 0; site(0, 0) = 1;",
+                "site(1, 10) = 2; site(0, 0) = 3; site(0, 0) = 4; plan(-1) = 16; plan(0) = 4; plan(1) = 4; plan(2) = 0;",
+                "plan(3) = 4; plan(4) = 4; rooms(3, 5) = 0; plan(-1) = 2; plan(3) = 0; plan(4) = 0; plan(2) = 0; plan(1) = 1;",
+                "cuts(1) = 2; plan(-1) = 1; plan(0) = 1; plan(1) = 0; plan(3) = 0; plan(4) = 0; cuts(0) = 2; plan(-1) = 0;",
+                "plan(0) = 0; plan(4) = 0; rooms(3, 0) = 5; plan(-1) = 8; plan(3) = 4; plan(4) = 4");
         Runs.run("19: a tie by a step is enough to move an area",
                 "area(5) = 0; area(5) = 1; line(0, 1, 9) = 0; site(0, 0) = 0; site(1, 10) = 1; plan(0) = 3; mood(0, 1) = 0;",
                 "plan(-1) = -1");

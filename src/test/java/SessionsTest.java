@@ -43,6 +43,12 @@ public final class SessionsTest {
                 "session(1, 1) = 1; session(1, 2) = 3; session(1, 3) = 7; session(0, 2) = 1; session(2, 0) = -1;",
                 "told(8) = 1; ends(0) = 1; session(0, 2) = 3; ends(0) = 0; told(8) = 3; told(6) = 0; back() = 4;",
                 "told(8) = 2; session(0, 2) = 3");
+        Runs.run("17: of as many sessions as there can be",
+                TWO_SITES, "opens(0, 1, 1) = 1; opens(0, 2, 2) = 2; opens(0, 3, 3) = 3; opens(0, 4, 4) = 4; opens(0, 5, 5) = 5;",
+                "opens(0, 6, 6) = 6; opens(0, 7, 7) = 7; opens(0, 8, 8) = 8; opens(0, 9, 9) = 9; opens(0, 1, 10) = 10;",
+                "opens(0, 2, 11) = 11; opens(2, 3, 12) = 12; ends(0) = 11; session(10, 3) = 12; session(10, 1) = 1;",
+                "session(11, 0) = -1; opens(1, 9, 30) = 12; session(11, 3) = 30; ticks(5) = 4; told(6) = 8;",
+                "session(0, 2) = 6; session(7, 2) = 9; session(6, 3) = 7");
         Runs.run("17: wrong inputs",
                 "ends(0) = -2;", TWO_SITES, "opens(0, 1, 5) = 1; ends(1) = -2; ends(-1) = -2; told(0) = 3; told(8) = 0");
     }

@@ -23,6 +23,8 @@ public final class ToldTest {
                 "line(0, 7, 9) = 0; line(7, 1, 9) = 0; line(1, 6, 9) = 0; line(6, 2, 9) = 0; line(2, 5, 9) = 0;",
                 "line(5, 3, 9) = 0; line(3, 4, 9) = 0; far(0, 4) = 63; far(4, 0) = 63; far(7, 4) = 54; line(0, 2, 9) = 0;",
                 "far(0, 4) = 36; far(6, 0) = 18; far(1, 0) = 18; far(1, 4) = 45");
+        Runs.run("11: a way through the first area", "area(0) = 0; area(0) = 1; area(0) = 2; line(0, 1, 4) = 0; line(0, 2, 5) = 0;",
+                "far(1, 2) = 9; far(2, 1) = 9");
         Runs.run("11: wrong inputs", "far(0, 0) = -2;", CHAIN, "far(0, 3) = -2; far(3, 0) = -2; far(-1, 0) = -2;",
                 "far(0, -1) = -2; told(0) = 5; told(12) = 5");
     }
@@ -68,6 +70,10 @@ public final class ToldTest {
                 "cuts(0) = 2; siteOf(1, 9) = 1");
         Runs.run("13: the sessions of a site that would go weigh nowhere else",
                 TWO_SITES, "opens(0, 9, 30) = 1; siteOf(0, 9) = 1; rooms(1, 59) = 60; siteOf(0, 9) = 0");
+        Runs.run("13: what was asked before does not matter",
+                TWO_SITES, "siteOf(0, 9) = 1; siteOf(0, 6) = 3; siteOf(0, 9) = 1; siteOf(0, 4) = 30; worst(1, 0) = 30;",
+                "siteOf(1, 6) = 4; worst(2, 0) = 0; siteOf(1, 4) = 30; order(3, 0) = 0; siteOf(0, 6) = 3; plan(-1) = 0;",
+                "siteOf(1, 5) = 0");
         Runs.run("13: the last site alone is safe to go", "area(9) = 0; site(0, 0) = 0; siteOf(0, 5) = 1; siteOf(0, 9) = 1");
         Runs.run("13: wrong inputs", "siteOf(0, 0) = -2;", TWO_SITES, "siteOf(0, -1) = -2; siteOf(0, 10) = -2;",
                 "siteOf(-1, 0) = -2; siteOf(2, 0) = -2; siteOf(2, 10) = -2; told(0) = 6");
@@ -78,6 +84,9 @@ public final class ToldTest {
                 TWO_SITES, "area(1) = 3; seems(0, 0) = 0; seems(1, 0) = 2; seems(1, 1) = 3; seems(3, 0) = -1; steps(1, 4) = 0;",
                 "seems(1, 1) = 15; seems(0, 1) = 17; mood(0, 1) = 0; seems(0, 1) = 5; mood(0, 2) = 1; seems(0, 1) = 17;",
                 "cuts(1) = 2; seems(1, 1) = -1; cuts(1) = 0; seems(1, 1) = 3; drains(1) = 1; seems(1, 1) = 3");
+        Runs.run("14: no way stays no way with steps and moods",
+                "area(1) = 0; area(1) = 1; site(0, 1) = 0; steps(0, 2) = 0; seems(1, 0) = -1; of(1, 4) = 0; mood(1, 1) = 0;",
+                "seems(1, 0) = -1; mood(1, 2) = 1; seems(1, 0) = -1; of(1, 2) = -1; of(1, 3) = -1");
         Runs.run("14: wrong inputs", "seems(0, 0) = -2;", TWO_SITES, "seems(0, 2) = -2; seems(0, -1) = -2; seems(3, 0) = -2;",
                 "seems(-1, 0) = -2; told(0) = 5; told(1) = 0; told(2) = 0");
     }
