@@ -840,7 +840,8 @@ public final class AnySites {
          */
         private boolean hasTooLittleRoom(int up) {
             for (int s = 0; s < state.sites.count; s++) {
-                if (Outlook.contains(up, s) && roomAround(state.sites.home[s], up) < demandAround(state.sites.home[s])) {
+                int a = state.sites.home[s];
+                if (Outlook.contains(up, s) && roomAround(a, up) < demandAround(a)) {
                     return true;
                 }
             }
