@@ -67,11 +67,13 @@ public final class RefusedTest {
     private static void noPlan() {
         Twins.refused("20: NO if there is no plan", made("area(1) = 0; site(0, 0) = 0; steps(0, 3) = 0"), "lays()", NO);
         Twins.refused("20: NO if there is no plan for a draining site",
-                made("area(1) = 0; site(0, 0) = 0; steps(0, 3) = 0; drains(0) = 1; site(0, 0) = 1; cuts(1) = 2"), "lays()", NO);
+                made("area(1) = 0; site(0, 0) = 0; steps(0, 3) = 0; drains(0) = 1; site(0, 0) = 1;",
+                "cuts(1) = 2"), "lays()", NO);
         Twins.refused("20: NO if there is no plan, though the rooms suffice together",
                 made("area(6) = 0; site(0, 3) = 0; site(0, 3) = 1; steps(1, 4) = 0"), "lays()", NO);
         Twins.refused("20: NO if there is no plan, with five sites",
-                made("area(6) = 0; site(0, 5) = 0; site(0, 5) = 1; site(0, 5) = 2; site(0, 5) = 3; site(0, 5) = 4"), "lays()", NO);
+                made("area(6) = 0; site(0, 5) = 0; site(0, 5) = 1; site(0, 5) = 2; site(0, 5) = 3;",
+                "site(0, 5) = 4"), "lays()", NO);
         Twins.refused("20: NO if there is no plan, all places taken", Networks::full, "lays()", NO);
     }
 
@@ -86,7 +88,8 @@ public final class RefusedTest {
     private static void nothingKept() {
         Twins.refused("26: NO if no state has been kept yet", AnySites::new, "back()", NO);
         Twins.refused("26: NO if none is kept, for no call was an act",
-                made("far(0, 0) = -2; type(97) = 1; clear() = 1; reads() = -10; area(100) = -2; plan(-1) = 0"), "back()", NO);
+                made("far(0, 0) = -2; type(97) = 1; clear() = 1; reads() = -10; area(100) = -2;",
+                "plan(-1) = 0"), "back()", NO);
         Twins.refused("26: NO if all states are taken back, and the oldest are gone",
                 made("area(1) = 0; area(2) = 1; area(3) = 2; area(4) = 3; area(5) = 4; area(6) = 5; back() = 4; back() = 3;",
                         "back() = 2; back() = 1; back() = 0; told(4) = 1"), "back()", NO);
@@ -128,10 +131,12 @@ public final class RefusedTest {
     }
 
     private static void questions() {
-        String[] silent = {"far(0, 7) = -1", "far(0, 6) = 21", "of(7, 2) = -1", "of(7, 3) = -1", "of(0, 4) = 4", "siteOf(4, 8) = -1",
-            "siteOf(0, 9) = 0", "siteOf(4, 9) = 0", "siteOf(4, 4) = 3", "seems(7, 0) = -1", "seems(0, 4) = -1", "session(12, 0) = -1",
-            "session(2147483647, 4) = -1", "session(11, 4) = 0", "plan(-1) = -1", "plan(0) = -1", "plan(4) = -1", "order(15, 0) = -1",
-            "order(1, 1) = -1", "order(15, 2147483647) = -1", "worst(1, 0) = 200", "worst(1, 1) = 8", "worst(2, 0) = 260", "worst(2, 1) = 12", "told(0) = 1", "told(12) = 5"};
+        String[] silent = {"far(0, 7) = -1", "far(0, 6) = 21", "of(7, 2) = -1", "of(7, 3) = -1", "of(0, 4) = 4",
+            "siteOf(4, 8) = -1", "siteOf(0, 9) = 0", "siteOf(4, 9) = 0", "siteOf(4, 4) = 3", "seems(7, 0) = -1",
+            "seems(0, 4) = -1", "session(12, 0) = -1", "session(2147483647, 4) = -1", "session(11, 4) = 0",
+            "plan(-1) = -1", "plan(0) = -1", "plan(4) = -1", "order(15, 0) = -1", "order(1, 1) = -1",
+            "order(15, 2147483647) = -1", "worst(1, 0) = 200", "worst(1, 1) = 8", "worst(2, 0) = 260", "worst(2, 1) = 12",
+            "told(0) = 1", "told(12) = 5"};
         for (String call : silent) {
             Twins.silent("a question changes nothing, and NONE is no error", Networks::full, call);
         }
@@ -147,15 +152,16 @@ public final class RefusedTest {
     }
 
     private static void acts() {
-        String[] inSmall = {"area(1) = 3", "wants(0, 99) = 10", "line(0, 1, 9) = 2", "line(0, 1, 0) = 2", "line(1, 2, 1) = 0",
-            "mood(0, 1) = 0", "mood(2, 2) = 0", "site(2, 1) = 2", "rooms(0, 0) = 40", "steps(0, 4) = 0", "drains(0) = 2",
-            "cuts(0) = 2", "cuts(1) = 2", "opens(0, 1, 1) = 3", "ends(0) = 1", "ends(1) = 1", "ticks(1) = 0", "ticks(30) = 2",
-            "lays() = 0", "reads() = 1"};
+        String[] inSmall = {"area(1) = 3", "wants(0, 99) = 10", "line(0, 1, 9) = 2", "line(0, 1, 0) = 2",
+            "line(1, 2, 1) = 0", "mood(0, 1) = 0", "mood(2, 2) = 0", "site(2, 1) = 2", "rooms(0, 0) = 40",
+            "steps(0, 4) = 0", "drains(0) = 2", "cuts(0) = 2", "cuts(1) = 2", "opens(0, 1, 1) = 3", "ends(0) = 1",
+            "ends(1) = 1", "ticks(1) = 0", "ticks(30) = 2", "lays() = 0", "reads() = 1"};
         for (String call : inSmall) {
             Twins.act("one state by an act", Networks::small, call);
         }
-        String[] inFull = {"wants(7, 0) = 99", "line(6, 7, 9) = 0", "mood(7, 2) = 0", "mood(1, 0) = 2", "rooms(4, 999) = 100",
-            "steps(0, 4) = 0", "drains(0) = 3", "cuts(4) = 0", "cuts(3) = 2", "ends(11) = 11", "ticks(30) = 12", "reads() = 40"};
+        String[] inFull = {"wants(7, 0) = 99", "line(6, 7, 9) = 0", "mood(7, 2) = 0", "mood(1, 0) = 2",
+            "rooms(4, 999) = 100", "steps(0, 4) = 0", "drains(0) = 3", "cuts(4) = 0", "cuts(3) = 2", "ends(11) = 11",
+            "ticks(30) = 12", "reads() = 40"};
         for (String call : inFull) {
             Twins.act("the latest five states", Networks::full, call);
         }
@@ -167,8 +173,8 @@ public final class RefusedTest {
     }
 
     private static void actsWithoutDifference() {
-        String[] same = {"wants(1, 20) = 20", "line(0, 1, 2) = 2", "line(1, 0, 2) = 2", "line(0, 2, 0) = 0", "mood(0, 0) = 0",
-            "rooms(1, 40) = 40", "steps(0, 0) = 0", "lays() = 0"};
+        String[] same = {"wants(1, 20) = 20", "line(0, 1, 2) = 2", "line(1, 0, 2) = 2", "line(0, 2, 0) = 0",
+            "mood(0, 0) = 0", "rooms(1, 40) = 40", "steps(0, 0) = 0", "lays() = 0"};
         for (String call : same) {
             Twins.act("a state also if nothing becomes different", Networks::small, call);
         }
