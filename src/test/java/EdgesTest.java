@@ -17,10 +17,12 @@ public final class EdgesTest {
         areas();
         linesAndDistances();
         moods();
+        loyalWithoutCatch();
         sites();
         queue();
         apparentDistances();
         catches();
+        deafCatches();
         loyalCatches();
         loads();
         safeToGo();
@@ -89,6 +91,22 @@ public final class EdgesTest {
                 "of(0, 3) = 1");
     }
 
+    /** "its last site becomes its catch directly before that", and of the catch: "There is none if no site ..". */
+    private static void loyalWithoutCatch() {
+        String gone = "area(0) = 0; site(0, 9) = 0; ticks(1) = 0; of(0, 3) = 0; cuts(0) = 2; of(0, 2) = -1;";
+        Runs.run("5: the last site of a tick is lost by becoming loyal without a catch", gone, "of(0, 3) = 0;",
+                "mood(0, 2) = 0; of(0, 3) = -1; site(0, 9) = 1; cuts(0) = 0; of(0, 2) = 0; steps(0, 1) = 0; of(0, 2) = 1;",
+                "of(0, 3) = -1; steps(0, 0) = 1; ticks(1) = 0; of(0, 3) = 0; steps(0, 1) = 0; of(0, 2) = 0");
+        Runs.run("5: from deaf too", gone, "mood(0, 1) = 0; of(0, 3) = 0; mood(0, 2) = 1; of(0, 3) = -1");
+        Runs.run("5: by a text too", gone, "text(m0 2;); reads() = 1; of(0, 3) = -1; back() = 4; of(0, 3) = 0;",
+                "text(x0;m0 2;x0;); reads() = 3; of(0, 1) = 2; of(0, 3) = 0");
+        Runs.run("5: not by staying loyal", gone, "cuts(0) = 0; mood(0, 2) = 0; cuts(0) = 2; of(0, 2) = -1; mood(0, 2) = 2;",
+                "of(0, 3) = 0; cuts(0) = 0; of(0, 2) = 0");
+        Runs.run("5: without a way there is no catch either", "area(0) = 0; area(0) = 1; line(0, 1, 1) = 0; site(1, 9) = 0;",
+                "ticks(1) = 0; of(0, 3) = 0; line(0, 1, 0) = 1; of(0, 3) = 0; mood(0, 2) = 0; of(0, 3) = -1; of(1, 3) = 0;",
+                "line(0, 1, 1) = 0; of(0, 2) = 0; of(0, 3) = -1");
+    }
+
     private static void sites() {
         Runs.run("6: the fifth site, no sixth, and room again when one is taken back",
                 "area(0) = 0; site(0, 0) = 0; site(0, 999) = 1; site(0, 0) = 2; site(0, 0) = 3; site(0, 999) = 4;",
@@ -152,6 +170,32 @@ public final class EdgesTest {
                 "seems(0, 1) = 3; steps(1, 4) = 0; of(0, 2) = 0");
         Runs.run("12: a deaf area, one nearer: the steps do not decide", pair, "mood(0, 1) = 0; site(0, 9) = 0;",
                 "site(1, 9) = 1; steps(0, 4) = 0; of(0, 2) = 0; of(1, 2) = 1; mood(0, 0) = 1; of(0, 2) = 1");
+    }
+
+    /** "of several the one with the smallest step, and of these the one with the smallest number": of a deaf area too. */
+    private static void deafCatches() {
+        String three = "area(5) = 0; mood(0, 1) = 0; site(0, 9) = 0; site(0, 9) = 1; site(0, 9) = 2;";
+        Runs.run("12: a deaf area, the smallest step of three", three, "steps(0, 2) = 0; steps(1, 1) = 0; of(0, 2) = 2;",
+                "steps(2, 3) = 0; of(0, 2) = 1; steps(1, 3) = 1; of(0, 2) = 0; steps(0, 3) = 2; of(0, 2) = 0;",
+                "steps(0, 4) = 3; of(0, 2) = 1; seems(0, 0) = 0; seems(0, 1) = 0; seems(0, 2) = 0; siteOf(1, 6) = 1");
+        Runs.run("12: a deaf area, equally far by different ways", "area(5) = 0; area(0) = 1; area(0) = 2;",
+                "area(0) = 3; line(0, 1, 4) = 0; line(0, 2, 1) = 0; line(2, 3, 3) = 0; mood(0, 1) = 0; site(1, 9) = 0;",
+                "site(3, 9) = 1; of(0, 2) = 0; steps(0, 1) = 0; seems(0, 0) = 4; seems(0, 1) = 4; of(0, 2) = 1;",
+                "line(2, 3, 4) = 3; of(0, 2) = 0; steps(0, 4) = 1; of(0, 2) = 0");
+        Runs.run("18: a drain moves a deaf area to a site that is equally far", three, "drains(0) = 1; ticks(1) = 0;",
+                "siteOf(0, 2) = 1; siteOf(0, 3) = 1; of(0, 2) = 1; of(0, 3) = 1; ticks(1) = 0; siteOf(0, 3) = 2");
+        Runs.run("18: and waits if that one would be overloaded", three, "rooms(1, 4) = 9; drains(0) = 1; ticks(3) = 0;",
+                "told(10) = 3; siteOf(0, 2) = 0; of(0, 2) = 0; steps(1, 1) = 0; ticks(1) = 0; of(0, 2) = 2; told(10) = 3");
+        Runs.run("18: it does not move a deaf area to one that is farther", "area(5) = 0; area(0) = 1; line(0, 1, 1) = 0;",
+                "mood(0, 1) = 0; site(0, 9) = 0; site(1, 9) = 1; drains(0) = 1; ticks(4) = 0; siteOf(0, 2) = 4;",
+                "of(0, 2) = 0; ticks(1) = 0; siteOf(0, 3) = 2; of(0, 2) = 1");
+        Runs.run("13: safe to go, for a deaf area goes to the smallest step", three, "rooms(1, 4) = 9; siteOf(0, 9) = 0;",
+                "order(1, 0) = -1; worst(1, 0) = 1; steps(1, 1) = 0; siteOf(0, 9) = 1; order(1, 0) = 0; worst(1, 0) = 0;",
+                "order(5, 0) = -1; order(7, 0) = 0; order(7, 1) = 1; order(7, 2) = 2");
+        Runs.run("15: a session of a deaf area begins at the smallest step", three, "steps(0, 1) = 0; opens(0, 1, 9) = 1;",
+                "session(0, 1) = 1; steps(1, 1) = 0; opens(0, 1, 9) = 2; session(1, 1) = 2; session(0, 4) = 1");
+        Runs.run("5: becoming loyal, a deaf area keeps the site with the smallest step", three, "steps(0, 1) = 0;",
+                "mood(0, 2) = 1; of(0, 3) = 1; steps(0, 0) = 1; of(0, 2) = 1");
     }
 
     private static void loyalCatches() {

@@ -25,6 +25,10 @@ public final class FaceTest {
         "Exact\\b", "\\bSystem\\.(?!arraycopy)", "\\bObject\\b", "\\bequals\\b", "\\bhashCode\\b", "\\btoString\\b",
         "static \\{", "while \\(true\\)", "\\bjava\\."};
 
+    /** What the class uses of the library; LANGUAGE.md allows more. */
+    private static final Set<String> LIBRARY = Set.of("Math.min", "Math.max", "Integer.bitCount", "System.arraycopy");
+    private static final Set<String> OWN = Set.of("Outlook");
+
     public static void main(String[] args) throws IOException {
         constants();
         face();
@@ -109,6 +113,8 @@ public final class FaceTest {
             Matcher m = Pattern.compile(forbidden).matcher(code);
             Runs.holds("rules 4 and 6: " + forbidden, !m.find());
         }
+        library(code);
+        objects(code);
         Runs.holds("signs 1 to 127 alone", text.chars().allMatch(c -> c > 0 && c < 128));
         int begun = -1;
         String[] lines = text.split("\n");
@@ -119,6 +125,22 @@ public final class FaceTest {
                 Runs.holds("rule 11: some sixty lines: " + lines[begun], i - begun <= 60);
                 begun = -1;
             }
+        }
+    }
+
+    private static void library(String code) {
+        for (Matcher m = Pattern.compile("\\b([A-Z]\\w*)\\.(\\w+)\\(").matcher(code); m.find();) {
+            String name = m.group(1) + "." + m.group(2);
+            Runs.holds("rule 4: " + name, LIBRARY.contains(name) || OWN.contains(m.group(1)));
+        }
+    }
+
+    /** All rows are made with the object, so that no number of calls fills the room: a new one stands nowhere else. */
+    private static void objects(String code) {
+        for (Matcher m = Pattern.compile("(?m)^(.*)\\bnew \\w+.*$").matcher(code); m.find();) {
+            boolean field = m.group(1).matches("        (private )?final [\\w\\[\\]]+ \\w+ = ");
+            boolean inConstructor = m.group(1).matches("        \\w+ = |                ring\\[i\\] = ");
+            Runs.holds("rule 12: " + m.group().strip(), field || inConstructor);
         }
     }
 }
